@@ -34,7 +34,6 @@ public final class TwoLakes {
     private final Outlook[] outlooks = new Outlook[WORLDS];
     private final Outlook common = new Outlook();
     private final int[] weight = new int[WORLDS];
-    private final int[] totals = new int[HOURS + 1];
     // What has been worked out since the last change, so that asking twice costs nothing.
     private final int[] knownWorth = new int[LEVELS];
     private final int[] knownDoing = new int[WORLDS];
@@ -270,15 +269,17 @@ public final class TwoLakes {
 
     private boolean isLegalNow(int doing) {
         doings.lookAt(now, basin.upper + basin.lower);
-        return doings.startCost(modesNow(), doing) != NONE && doings.isOpen(doing, basin.upper);
+        boolean follows = doings.startCost(modesNow(), doing) != NONE;
+        return follows && doings.isOpen(now * PAIRS + doing, basin.upper);
     }
 
     /** Does a doing that is known to be legal. */
     private int carryOut(int doing, int world) {
         doings.lookAt(now, basin.upper + basin.lower);
-        int money = outlooks[world].prices[now] * doings.energy[doing] - doings.startCost(modesNow(), doing);
-        basin.upper += doings.upperShift[doing];
-        basin.lower += doings.lowerShift[doing];
+        int at = now * PAIRS + doing;
+        int money = outlooks[world].prices[now] * doings.energy[at] - doings.startCost(modesNow(), doing);
+        basin.upper += doings.upperShift[at];
+        basin.lower += doings.lowerShift[at];
         first.turnTo(doing / MODES);
         second.turnTo(doing % MODES);
         purse += money;
@@ -304,7 +305,7 @@ public final class TwoLakes {
             if (hidden) {
                 planAll(basin.upper);
             } else {
-                foreseeTotals(basin.upper);
+                doings.foresee(now, basin.upper + basin.lower);
                 planWorld(world);
             }
             Outlook outlook = hidden ? common : outlooks[world];
@@ -315,22 +316,19 @@ public final class TwoLakes {
 
     /** Leaves in common the worth of the best plan from now on, the upper lake being at that level. */
     private void planAll(int upper) {
-        foreseeTotals(upper);
+        doings.foresee(now, upper + basin.lower);
         for (int world = 0; world < WORLDS; world++) {
             if (weight[world] > 0) {
                 planWorld(world);
             }
         }
         mixWorlds();
-        doings.countStarts();
-        common.plan(doings, totals, now, revealHour);
+        common.plan(doings, now, revealHour);
     }
 
     private void planWorld(int world) {
-        Outlook outlook = outlooks[world];
-        outlook.endWith(endPrice);
-        doings.countStarts();
-        outlook.plan(doings, totals, Math.max(now, revealHour), HOURS);
+        outlooks[world].endWith(endPrice);
+        outlooks[world].plan(doings, Math.max(now, revealHour), HOURS);
     }
 
     /**
@@ -348,17 +346,6 @@ public final class TwoLakes {
         }
     }
 
-    /**
-     * The machines only move water from lake to lake: what both hold together is fixed for every
-     * hour by the flows alone, and so the upper level tells the lower one in the whole plan.
-     */
-    private void foreseeTotals(int upper) {
-        totals[now] = upper + basin.lower;
-        for (int hour = now; hour < HOURS; hour++) {
-            totals[hour + 1] = totals[hour] + basin.inflow[hour] - basin.outflow[hour];
-        }
-    }
-
     /** The lakes, what flows into and out of them, and what is promised to the net. */
     private static final class Lakes {
         private int upperRoom = MOST_ROOM;
@@ -370,10 +357,6 @@ public final class TwoLakes {
         private final int[] inflow = new int[HOURS];
         private final int[] outflow = new int[HOURS];
         private final int[] promised = new int[HOURS];
-
-        private boolean isTooFast(int upperShift, int lowerShift) {
-            return Math.abs(upperShift) > upperSpeed || Math.abs(lowerShift) > lowerSpeed;
-        }
 
         /** The least level of the upper lake that leaves the lower one room for the rest. */
         private int leastUpper(int total) {
@@ -403,12 +386,8 @@ public final class TwoLakes {
             return asked == DOWN ? down : asked == UP ? -lifts : 0;
         }
 
-        private int energy(int asked) {
+        private int energyOf(int asked) {
             return asked == DOWN ? gives : asked == UP ? -takes : 0;
-        }
-
-        private boolean standsBy(int asked, int hour) {
-            return asked == STILL && !isOut[hour];
         }
 
         /** What the net could have at once: a start downwards, or the end of pumping. */
@@ -416,11 +395,11 @@ public final class TwoLakes {
             if (asked == UP) {
                 return takes;
             }
-            return standsBy(asked, hour) ? gives : 0;
+            return asked == STILL && !isOut[hour] ? gives : 0;
         }
 
         private int unitsForBackup(int asked, int hour) {
-            return asked == DOWN || standsBy(asked, hour) ? down : 0;
+            return asked == DOWN || asked == STILL && !isOut[hour] ? down : 0;
         }
 
         private static boolean isStart(int before, int asked) {
@@ -439,16 +418,17 @@ public final class TwoLakes {
         }
     }
 
-    /** What the nine doings do in one hour, and at which levels of the upper lake each is legal. */
+    /** What the nine doings do in an hour, and at which levels of the upper lake each is legal. */
     private static final class Doings {
         private final Lakes basin;
         private final Machine first;
         private final Machine second;
-        private final int[] energy = new int[PAIRS];
-        private final int[] upperShift = new int[PAIRS];
-        private final int[] lowerShift = new int[PAIRS];
-        private final int[] lowest = new int[PAIRS];
-        private final int[] highest = new int[PAIRS];
+        // By hour * PAIRS + doing.
+        private final int[] energy = new int[HOURS * PAIRS];
+        private final int[] upperShift = new int[HOURS * PAIRS];
+        private final int[] lowerShift = new int[HOURS * PAIRS];
+        private final int[] lowest = new int[HOURS * PAIRS];
+        private final int[] highest = new int[HOURS * PAIRS];
         // By doing * PAIRS + modes of the hour ahead; NONE where the one can't follow the other.
         private final int[] startCosts = new int[PAIRS * PAIRS];
 
@@ -458,56 +438,71 @@ public final class TwoLakes {
             this.second = second;
         }
 
+        /**
+         * The machines only move water from lake to lake: what both hold together is fixed for every
+         * hour by the flows alone, and so the upper level tells the lower one in the whole plan.
+         */
+        private void foresee(int now, int totalNow) {
+            int total = totalNow;
+            for (int hour = now; hour < HOURS; hour++) {
+                lookAt(hour, total);
+                total += basin.inflow[hour] - basin.outflow[hour];
+            }
+            countStarts();
+        }
+
         private void lookAt(int hour, int total) {
+            int totalBehind = total + basin.inflow[hour] - basin.outflow[hour];
             for (int doing = 0; doing < PAIRS; doing++) {
+                int at = hour * PAIRS + doing;
                 measure(hour, doing);
                 if (isForbidden(hour, doing)) {
-                    lowest[doing] = 1;
-                    highest[doing] = 0;
+                    lowest[at] = 1;
+                    highest[at] = 0;
                 } else {
-                    limit(hour, total, doing);
+                    // Levels ahead of the hour that are levels, and that lead to levels behind it.
+                    int shift = upperShift[at];
+                    int least = Math.max(basin.leastUpper(total), basin.leastUpper(totalBehind) - shift);
+                    lowest[at] = Math.max(least, unitsNeeded(hour, doing));
+                    highest[at] = Math.min(basin.mostUpper(total), basin.mostUpper(totalBehind) - shift);
                 }
             }
         }
 
-        private boolean isOpen(int doing, int level) {
-            return level >= lowest[doing] && level <= highest[doing];
+        private boolean isOpen(int at, int level) {
+            return level >= lowest[at] && level <= highest[at];
         }
 
         private void measure(int hour, int doing) {
+            int at = hour * PAIRS + doing;
             int a = doing / MODES;
             int b = doing % MODES;
             int drop = first.letDown(a) + second.letDown(b);
-            energy[doing] = first.energy(a) + second.energy(b);
-            upperShift[doing] = basin.inflow[hour] - drop;
-            lowerShift[doing] = drop - basin.outflow[hour];
+            energy[at] = first.energyOf(a) + second.energyOf(b);
+            upperShift[at] = basin.inflow[hour] - drop;
+            lowerShift[at] = drop - basin.outflow[hour];
         }
 
-        /** What forbids a doing whatever the levels are. */
+        /** Whether something forbids a doing whatever the levels are. */
         private boolean isForbidden(int hour, int doing) {
+            int at = hour * PAIRS + doing;
             int a = doing / MODES;
             int b = doing % MODES;
             if (!first.canBe(a, hour) || !second.canBe(b, hour)) {
                 return true;
             }
-            if (basin.isTooFast(upperShift[doing], lowerShift[doing])) {
+            if (Math.abs(upperShift[at]) > basin.upperSpeed || Math.abs(lowerShift[at]) > basin.lowerSpeed) {
                 return true;
             }
             return first.backup(a, hour) + second.backup(b, hour) < basin.promised[hour];
         }
 
-        /** The levels ahead of the hour that are levels at all, keep the promise, and end at levels. */
-        private void limit(int hour, int total, int doing) {
-            int shift = upperShift[doing];
-            int totalBehind = total + shift + lowerShift[doing];
-            int least = Math.max(basin.leastUpper(total), basin.leastUpper(totalBehind) - shift);
-            int most = Math.min(basin.mostUpper(total), basin.mostUpper(totalBehind) - shift);
-            if (basin.promised[hour] > 0) {
-                int units = first.unitsForBackup(doing / MODES, hour) + second.unitsForBackup(doing % MODES, hour);
-                least = Math.max(least, units);
+        /** The units that the promise of the hour wants in the upper lake. */
+        private int unitsNeeded(int hour, int doing) {
+            if (basin.promised[hour] == 0) {
+                return 0;
             }
-            lowest[doing] = least;
-            highest[doing] = most;
+            return first.unitsForBackup(doing / MODES, hour) + second.unitsForBackup(doing % MODES, hour);
         }
 
         /** What the starts cost on the way from those modes to these, NONE if there is no such way. */
@@ -563,37 +558,39 @@ public final class TwoLakes {
         }
 
         /** Goes back from what values holds behind hour to - 1 to what it holds ahead of hour from. */
-        private void plan(Doings doings, int[] totals, int from, int to) {
+        private void plan(Doings doings, int from, int to) {
             for (int hour = to - 1; hour >= from; hour--) {
                 int[] spare = behind;
                 behind = values;
                 values = spare;
                 Arrays.fill(values, NEVER);
                 Arrays.fill(choices, NONE);
-                doings.lookAt(hour, totals[hour]);
                 for (int doing = 0; doing < PAIRS; doing++) {
-                    tryAtAllLevels(doings, doing, prices[hour] * doings.energy[doing]);
+                    tryFromAllModes(doings, hour, doing);
                 }
             }
         }
 
-        private void tryAtAllLevels(Doings doings, int doing, int money) {
-            int shift = doings.upperShift[doing];
-            for (int level = doings.lowest[doing]; level <= doings.highest[doing]; level++) {
-                int rest = behind[(level + shift) * PAIRS + doing];
-                if (rest != NEVER) {
-                    offer(doings, doing, level * PAIRS, money + rest);
-                }
-            }
-        }
-
-        /** Doings are offered in the order of ties, so only a better one takes the place of another. */
-        private void offer(Doings doings, int doing, int at, int worth) {
+        private void tryFromAllModes(Doings doings, int hour, int doing) {
+            int money = prices[hour] * doings.energy[hour * PAIRS + doing];
             for (int modes = 0; modes < PAIRS; modes++) {
                 int cost = doings.startCosts[doing * PAIRS + modes];
-                if (cost != NONE && worth - cost * startScale > values[at + modes]) {
-                    values[at + modes] = worth - cost * startScale;
-                    choices[at + modes] = doing;
+                if (cost != NONE) {
+                    tryAtAllLevels(doings, hour, doing, modes, money - cost * startScale);
+                }
+            }
+        }
+
+        /** Doings are tried in the order of ties, so only a better one takes the place of another. */
+        private void tryAtAllLevels(Doings doings, int hour, int doing, int modes, int money) {
+            int shift = doings.upperShift[hour * PAIRS + doing];
+            int highest = doings.highest[hour * PAIRS + doing];
+            for (int level = doings.lowest[hour * PAIRS + doing]; level <= highest; level++) {
+                int rest = behind[(level + shift) * PAIRS + doing];
+                int state = level * PAIRS + modes;
+                if (rest != NEVER && money + rest > values[state]) {
+                    values[state] = money + rest;
+                    choices[state] = doing;
                 }
             }
         }
