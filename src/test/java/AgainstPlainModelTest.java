@@ -6,16 +6,17 @@ public final class AgainstPlainModelTest {
     private final String run;
     private final TwoLakes x = new TwoLakes();
     private final PlainModel model = new PlainModel();
-    private final int tame;
+    // 0: few prices, so that there are many ties; 1: tame; 2: much flow and reserve; 3: all that may be.
+    private final int kind;
 
     private AgainstPlainModelTest(long seed) {
         dice = new Random(seed);
         run = "run " + seed;
-        tame = dice.nextInt(3);
+        kind = dice.nextInt(4);
     }
 
     public static void main(String[] args) {
-        for (long seed = 1; seed <= 150; seed++) {
+        for (long seed = 1; seed <= 200; seed++) {
             new AgainstPlainModelTest(seed).run();
         }
         Due.end();
@@ -48,9 +49,7 @@ public final class AgainstPlainModelTest {
         }
         for (int world = 0; world < 3; world++) {
             for (int hour = 0; hour < 24; hour++) {
-                int n = tame == 0 ? dice.nextInt(3) * 10 : dice.nextInt(80) - 15;
-                Due.yes(run + ": price", x.price(world, hour, n));
-                model.price[world][hour] = n;
+                setPrice(world, hour);
             }
         }
     }
@@ -68,7 +67,7 @@ public final class AgainstPlainModelTest {
             case 4: setOut(); break;
             case 5: setReserve(); break;
             case 6: setWeights(); break;
-            case 7: setPrice(); break;
+            case 7: setPrice(upTo(2), upTo(23)); break;
             case 8: setReveal(); break;
             default: setEnd(); break;
         }
@@ -86,21 +85,23 @@ public final class AgainstPlainModelTest {
     }
 
     private void setSpeeds() {
-        model.speed[0] = 3 + upTo(37);
-        model.speed[1] = 3 + upTo(37);
+        int least = kind == 3 ? 1 : 3;
+        model.speed[0] = least + upTo(40 - least);
+        model.speed[1] = least + upTo(40 - least);
         Due.yes(run + ": speeds", x.speeds(model.speed[0], model.speed[1]));
     }
 
     private void setFlows() {
         int hour = upTo(23);
-        model.flow[hour][0] = upTo(tame == 2 ? 9 : 2);
-        model.flow[hour][1] = upTo(tame == 2 ? 9 : 2);
+        model.flow[hour][0] = upTo(kind >= 2 ? 9 : 2);
+        model.flow[hour][1] = upTo(kind >= 2 ? 9 : 2);
         Due.yes(run + ": flows", x.flows(hour, model.flow[hour][0], model.flow[hour][1]));
     }
 
     private void setMachine() {
         int k = upTo(1);
-        int[] m = {upTo(9), upTo(30), upTo(9), upTo(30), upTo(99)};
+        int most = kind == 3 && dice.nextInt(3) == 0 ? 99 : 9;
+        int[] m = {upTo(most), upTo(kind == 3 ? 99 : 30), upTo(most), upTo(kind == 3 ? 99 : 30), upTo(99)};
         model.machine[k] = m;
         Due.yes(run + ": machine", x.machine(k, m[0], m[1], m[2], m[3], m[4]));
     }
@@ -118,12 +119,13 @@ public final class AgainstPlainModelTest {
 
     private void setReserve() {
         int hour = upTo(23);
-        model.reserve[hour] = upTo(tame == 2 ? 30 : 8);
+        model.reserve[hour] = upTo(kind == 3 ? 99 : kind == 2 ? 30 : 8);
         Due.yes(run + ": reserve", x.reserve(hour, model.reserve[hour]));
     }
 
     private void setWeights() {
-        int[] w = {upTo(2), upTo(2), upTo(2)};
+        int most = kind == 3 ? 9 : 2;
+        int[] w = {upTo(most), upTo(most), upTo(most)};
         boolean some = w[0] + w[1] + w[2] > 0;
         Due.is(run + ": weights", x.weights(w[0], w[1], w[2]) ? 1 : 0, some ? 1 : 0);
         if (some) {
@@ -131,11 +133,10 @@ public final class AgainstPlainModelTest {
         }
     }
 
-    private void setPrice() {
-        int world = upTo(2);
-        int hour = upTo(23);
-        model.price[world][hour] = upTo(100) - 20;
-        Due.yes(run + ": price", x.price(world, hour, model.price[world][hour]));
+    private void setPrice(int world, int hour) {
+        int n = kind == 0 ? upTo(2) * 10 : kind == 3 ? upTo(1098) - 99 : upTo(80) - 15;
+        model.price[world][hour] = n;
+        Due.yes(run + ": price", x.price(world, hour, n));
     }
 
     private void setReveal() {

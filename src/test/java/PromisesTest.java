@@ -53,10 +53,22 @@ public final class PromisesTest {
         Due.counts("behind", x, 1, 19, 21, 1, 2, -10, 1, 1, 0);
         TwoLakes y = new TwoLakes();
         Due.is("the price of world 2 is 10, too", y.done(1, 1, 2), 190);
-        Due.is("the rooms are 40", new TwoLakes().water(39) == NEVER ? 1 : 0, 0);
+        roomsAndSpeedsAtFirst();
         TwoLakes z = new TwoLakes();
         Due.is("done(2, 2, 1)", z.done(2, 2, 1), -210);
         Due.counts("pumped", z, 1, 24, 16, 2, 2, -210, 1, 1, 0);
+    }
+
+    private static void roomsAndSpeedsAtFirst() {
+        TwoLakes x = new TwoLakes();
+        Due.yes("machine 0", x.machine(0, 20, 1, 20, 1, 0));
+        Due.yes("machine 1", x.machine(1, 21, 1, 21, 1, 0));
+        legals("both hold 40", x, 1, 0, 0, 1, 0, 1, 1, 1, 0);
+        Due.yes("lakes(40, 40, 40, 0)", x.lakes(40, 40, 40, 0));
+        Due.yes("machine 0", x.machine(0, 40, 1, 40, 1, 0));
+        Due.is("40 units down in an HOUR", x.legal(1, 0), 1);
+        Due.yes("flows(0, 1, 1)", x.flows(0, 1, 1));
+        Due.is("40 units, less 1", x.legal(1, 0), 1);
     }
 
     private static void lakes() {
@@ -258,6 +270,10 @@ public final class PromisesTest {
         Due.no("weights(0, 0, 0)", x.weights(0, 0, 0));
         Due.no("weights(-1, 0, 1)", x.weights(-1, 0, 1));
         Due.is("refused: worth()", x.worth(), 595);
+        Due.yes("weights(1, 0, 1)", x.weights(1, 0, 1));
+        Due.is("weights(1, 0, 1): worth()", x.worth(), 2 * 595);
+        Due.yes("weights(9, 9, 9)", x.weights(9, 9, 9));
+        Due.is("weights(9, 9, 9): worth()", x.worth(), 27 * 595);
         prices(x, 1, 20);
         prices(x, 2, 30);
         Due.yes("weights(0, 1, 0)", x.weights(0, 1, 0));
@@ -308,7 +324,11 @@ public final class PromisesTest {
         Due.is("mode(0, 1)", x.mode(0, 1), 1);
         Due.is("mode(1, 1)", x.mode(1, 1), 1);
         Due.is("mode(2, 1)", x.mode(2, 1), 1);
+        Due.yes("reveal(0)", x.reveal(0));
+        Due.is("known from HOUR 0 on", x.worth(), 3 * 95 + 295);
+        Due.is("mode(1, 1)", x.mode(1, 1), 0);
         Due.yes("reveal(24)", x.reveal(24));
+        Due.is("mode(1, 1)", x.mode(1, 1), 1);
         Due.is("never known", x.worth(), 4 * 95);
         Due.yes("weights(1, 3, 0)", x.weights(1, 3, 0));
         Due.is("never known: HOUR 1 costs world 0 a start", x.worth(), 3 * 295 - 5);
@@ -347,7 +367,9 @@ public final class PromisesTest {
         legals("behind STILL, UP", x, 1, 0, 1, 1, 0, 1, 1, 0, 1);
         x.done(2, 0, 0);
         legals("behind UP, STILL", x, 1, 1, 1, 0, 0, 0, 1, 1, 1);
-        Due.is("runs(24, 0)", x.runs(24, 0), 21);
+        Due.is("runs(20, 0)", x.runs(20, 0), 20);
+        Due.is("NOW is 23: legal(0, 0)", x.legal(0, 0), 1);
+        Due.is("runs(24, 0)", x.runs(24, 0), 1);
         legals("NOW is 24", x, NONE, NONE, NONE, NONE, NONE, NONE, NONE, NONE, NONE);
     }
 
@@ -392,7 +414,9 @@ public final class PromisesTest {
         }
         Due.is("mode(3, 0) ahead of REVEAL", x.mode(3, 0), NONE);
         Due.is("mode(-1, 0) ahead of REVEAL", x.mode(-1, 0), NONE);
-        Due.is("runs(24, 0)", x.runs(24, 0), 24);
+        Due.is("runs(23, 0)", x.runs(23, 0), 23);
+        Due.yes("mode(0, 0) at 23", x.mode(0, 0) >= 0);
+        Due.is("runs(24, 0)", x.runs(24, 0), 1);
         Due.is("mode(0, 0) at 24", x.mode(0, 0), NONE);
     }
 
