@@ -4,7 +4,7 @@ import java.util.Random;
 public final class AgainstPlainModelTest {
     private final Random dice;
     private final String run;
-    private final TwoLakes x = new TwoLakes();
+    private final Counted x = new Counted();
     private final PlainModel model = new PlainModel();
     // 0: few prices, so that there are many ties; 1: tame; 2: much flow and reserve; 3: all that may be.
     private final int kind;
@@ -24,7 +24,8 @@ public final class AgainstPlainModelTest {
 
     private void run() {
         setUp();
-        for (int i = 0; i < 40; i++) {
+        // A round has 20 calls at most.
+        while (x.callsLeft() >= 20) {
             int what = dice.nextInt(10);
             if (what < 3) {
                 set(dice.nextInt(10));

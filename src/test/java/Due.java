@@ -4,15 +4,21 @@ import java.util.NoSuchElementException;
 final class Due {
     private static int asked = 0;
     private static int wrong = 0;
+    // What is being tested, told ahead of each wrong answer.
+    private static String about = "";
 
     private Due() {
+    }
+
+    static void about(String what) {
+        about = what + "\n    ";
     }
 
     static void is(String call, long got, long want) {
         asked++;
         if (got != want) {
             wrong++;
-            System.out.println(call + " answered " + got + ", due is " + want);
+            System.out.println(about + call + " answered " + got + ", due is " + want);
         }
     }
 
@@ -24,20 +30,30 @@ final class Due {
         is(call, got ? 1 : 0, 0);
     }
 
-    static void refused(TwoLakes x, int a, int b, int world) {
-        boolean thrown = false;
-        try {
-            x.done(a, b, world);
-        } catch (NoSuchElementException e) {
-            thrown = true;
-        }
-        yes("done(" + a + ", " + b + ", " + world + ") throws NoSuchElementException", thrown);
+    static void refused(Counted x, int a, int b, int world) {
+        yes("done(" + a + ", " + b + ", " + world + ") throws NoSuchElementException", isRefused(x, a, b, world));
     }
 
-    /** All nine counts, in their order. */
-    static void counts(String call, TwoLakes x, int... want) {
+    static boolean isRefused(Counted x, int a, int b, int world) {
+        try {
+            x.done(a, b, world);
+            return false;
+        } catch (NoSuchElementException e) {
+            return true;
+        }
+    }
+
+    /** The first counts, in their order, as many as are told. */
+    static void counts(String call, Counted x, int... want) {
         for (int what = 0; what < want.length; what++) {
             is(call + ": count(" + what + ")", x.count(what), want[what]);
+        }
+    }
+
+    /** All nine doings of NOW, in the order 0 0, 0 1, 0 2, 1 0 and so on. */
+    static void legals(String call, Counted x, int... want) {
+        for (int i = 0; i < 9; i++) {
+            is(call + ": legal(" + i / 3 + ", " + i % 3 + ")", x.legal(i / 3, i % 3), want[i]);
         }
     }
 

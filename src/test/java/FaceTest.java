@@ -3,8 +3,10 @@ import java.lang.reflect.Field;
 import java.lang.reflect.Method;
 import java.lang.reflect.Modifier;
 import java.util.ArrayList;
+import java.util.Arrays;
 import java.util.Collections;
 import java.util.List;
+import java.util.NoSuchElementException;
 
 /** The class shows the document's face and nothing else (LANGUAGE.md, rule 1). */
 public final class FaceTest {
@@ -14,7 +16,7 @@ public final class FaceTest {
         Due.yes("final", Modifier.isFinal(face.getModifiers()));
         Due.is("NONE", TwoLakes.NONE, -1);
         Due.is("NEVER", TwoLakes.NEVER, -1000000000);
-        same("fields", shownFields(face), "int NEVER", "int NONE");
+        same("fields", shownFields(face), "public static final int NEVER", "public static final int NONE");
         same("methods", shownMethods(face),
             "boolean end(int)", "boolean flows(int,int,int)", "boolean lakes(int,int,int,int)",
             "boolean machine(int,int,int,int,int,int)", "boolean out(int,int,int,boolean)",
@@ -33,6 +35,8 @@ public final class FaceTest {
             }
         }
         for (Method method : face.getDeclaredMethods()) {
+            boolean throwing = Arrays.asList(method.getExceptionTypes()).contains(NoSuchElementException.class);
+            Due.is(method + " says what it throws", throwing ? 1 : 0, method.getName().equals("done") ? 1 : 0);
             boolean hidden = Modifier.isPrivate(method.getModifiers());
             Due.no(method + " bears a name of the face", hidden && isOfFace(face, method.getName()));
         }
@@ -52,7 +56,8 @@ public final class FaceTest {
         List<String> shown = new ArrayList<>();
         for (Field field : face.getDeclaredFields()) {
             if (!Modifier.isPrivate(field.getModifiers())) {
-                shown.add(field.getType().getSimpleName() + " " + field.getName());
+                shown.add(Modifier.toString(field.getModifiers()) + " " + field.getType().getSimpleName()
+                    + " " + field.getName());
             }
         }
         return shown;

@@ -31,39 +31,33 @@ public final class PromisesTest {
     }
 
     /** All prices of a world at once. */
-    private static void prices(TwoLakes x, int world, int n) {
+    private static void prices(Counted x, int world, int n) {
         for (int hour = 0; hour < 24; hour++) {
             Due.yes("price(" + world + ", " + hour + ", " + n + ")", x.price(world, hour, n));
         }
     }
 
-    private static void legals(String when, TwoLakes x, int... want) {
-        for (int i = 0; i < 9; i++) {
-            Due.is(when + ": legal(" + i / 3 + ", " + i % 3 + ")", x.legal(i / 3, i % 3), want[i]);
-        }
-    }
-
     private static void newObject() {
-        TwoLakes x = new TwoLakes();
+        Counted x = new Counted();
         Due.counts("new", x, 0, 20, 20, 0, 0, 0, 0, 0, 0, NONE);
-        legals("new", x, 1, 1, 1, 1, 1, 1, 1, 1, 1);
+        Due.legals("new", x, 1, 1, 1, 1, 1, 1, 1, 1, 1);
         // six hours of DOWN of one machine at 10 * 10, one start
         Due.is("new: worth()", x.worth(), 595);
         Due.is("done(1, 2, 0)", x.done(1, 2, 0), -10);
         Due.counts("behind", x, 1, 19, 21, 1, 2, -10, 1, 1, 0);
-        TwoLakes y = new TwoLakes();
+        Counted y = new Counted();
         Due.is("the price of world 2 is 10, too", y.done(1, 1, 2), 190);
         roomsAndSpeedsAtFirst();
-        TwoLakes z = new TwoLakes();
+        Counted z = new Counted();
         Due.is("done(2, 2, 1)", z.done(2, 2, 1), -210);
         Due.counts("pumped", z, 1, 24, 16, 2, 2, -210, 1, 1, 0);
     }
 
     private static void roomsAndSpeedsAtFirst() {
-        TwoLakes x = new TwoLakes();
+        Counted x = new Counted();
         Due.yes("machine 0", x.machine(0, 20, 1, 20, 1, 0));
         Due.yes("machine 1", x.machine(1, 21, 1, 21, 1, 0));
-        legals("both hold 40", x, 1, 0, 0, 1, 0, 1, 1, 1, 0);
+        Due.legals("both hold 40", x, 1, 0, 0, 1, 0, 1, 1, 1, 0);
         Due.yes("lakes(40, 40, 40, 0)", x.lakes(40, 40, 40, 0));
         Due.yes("machine 0", x.machine(0, 40, 1, 40, 1, 0));
         Due.is("40 units down in an HOUR", x.legal(1, 0), 1);
@@ -72,7 +66,7 @@ public final class PromisesTest {
     }
 
     private static void lakes() {
-        TwoLakes x = new TwoLakes();
+        Counted x = new Counted();
         Due.no("room 0", x.lakes(0, 40, 0, 0));
         Due.no("room 41", x.lakes(41, 40, 0, 0));
         Due.no("lower room 0", x.lakes(40, 0, 0, 0));
@@ -97,42 +91,42 @@ public final class PromisesTest {
     }
 
     private static void lakesHold() {
-        TwoLakes x = new TwoLakes();
+        Counted x = new Counted();
         Due.yes("lakes(5, 40, 3, 20)", x.lakes(5, 40, 3, 20));
-        legals("upper of 5 at 3", x, 1, 1, 1, 1, 0, 1, 1, 1, 0);
+        Due.legals("upper of 5 at 3", x, 1, 1, 1, 1, 0, 1, 1, 1, 0);
         Due.yes("lakes(40, 8, 20, 5)", x.lakes(40, 8, 20, 5));
-        legals("lower of 8 at 5", x, 1, 1, 1, 1, 0, 1, 1, 1, 1);
+        Due.legals("lower of 8 at 5", x, 1, 1, 1, 1, 0, 1, 1, 1, 1);
         Due.yes("lakes(40, 8, 20, 3)", x.lakes(40, 8, 20, 3));
-        legals("lower at 3", x, 1, 1, 1, 1, 0, 1, 1, 1, 0);
+        Due.legals("lower at 3", x, 1, 1, 1, 1, 0, 1, 1, 1, 0);
         Due.yes("lakes(40, 40, 2, 1)", x.lakes(40, 40, 2, 1));
-        legals("2 above, 1 below", x, 1, 0, 0, 0, 0, 1, 0, 1, 0);
+        Due.legals("2 above, 1 below", x, 1, 0, 0, 0, 0, 1, 0, 1, 0);
     }
 
     private static void speeds() {
-        TwoLakes x = new TwoLakes();
+        Counted x = new Counted();
         Due.no("speeds(0, 40)", x.speeds(0, 40));
         Due.no("speeds(41, 40)", x.speeds(41, 40));
         Due.no("speeds(40, 0)", x.speeds(40, 0));
         Due.no("speeds(40, 41)", x.speeds(40, 41));
-        legals("refused", x, 1, 1, 1, 1, 1, 1, 1, 1, 1);
+        Due.legals("refused", x, 1, 1, 1, 1, 1, 1, 1, 1, 1);
         Due.yes("speeds(3, 40)", x.speeds(3, 40));
-        legals("upper 3", x, 1, 1, 1, 1, 0, 1, 1, 1, 0);
+        Due.legals("upper 3", x, 1, 1, 1, 1, 0, 1, 1, 1, 0);
         Due.yes("speeds(40, 2)", x.speeds(40, 2));
-        legals("lower 2", x, 1, 0, 1, 0, 0, 1, 1, 1, 0);
+        Due.legals("lower 2", x, 1, 0, 1, 0, 0, 1, 1, 1, 0);
         Due.yes("speeds(1, 1)", x.speeds(1, 1));
-        legals("1, 1", x, 1, 0, 0, 0, 0, 1, 0, 1, 0);
+        Due.legals("1, 1", x, 1, 0, 0, 0, 0, 1, 0, 1, 0);
         Due.yes("flows(0, 3, 0)", x.flows(0, 3, 0));
         Due.yes("speeds(2, 40)", x.speeds(2, 40));
-        legals("the inflow counts", x, 0, 1, 0, 1, 0, 1, 0, 1, 0);
+        Due.legals("the inflow counts", x, 0, 1, 0, 1, 0, 1, 0, 1, 0);
         Due.yes("flows(0, 0, 3)", x.flows(0, 0, 3));
         Due.yes("speeds(40, 2)", x.speeds(40, 2));
-        legals("the outflow counts", x, 0, 1, 0, 1, 0, 1, 0, 1, 0);
+        Due.legals("the outflow counts", x, 0, 1, 0, 1, 0, 1, 0, 1, 0);
         Due.yes("speeds(40, 40)", x.speeds(40, 40));
-        legals("the most", x, 1, 1, 1, 1, 1, 1, 1, 1, 1);
+        Due.legals("the most", x, 1, 1, 1, 1, 1, 1, 1, 1, 1);
     }
 
     private static void flows() {
-        TwoLakes x = new TwoLakes();
+        Counted x = new Counted();
         Due.no("flows(-1, 1, 1)", x.flows(-1, 1, 1));
         Due.no("flows(24, 1, 1)", x.flows(24, 1, 1));
         Due.no("flows(0, -1, 1)", x.flows(0, -1, 1));
@@ -147,12 +141,12 @@ public final class PromisesTest {
         Due.counts("flowed", x, 2, 28, 17);
         Due.yes("an HOUR that is past", x.flows(0, 9, 9));
         Due.counts("nothing flows in the past", x, 2, 28, 17);
-        TwoLakes y = new TwoLakes();
+        Counted y = new Counted();
         Due.yes("lakes(20, 20, 20, 0)", y.lakes(20, 20, 20, 0));
         Due.yes("flows(0, 3, 0)", y.flows(0, 3, 0));
-        legals("it would flow over", y, 0, 1, 0, 1, 1, 0, 0, 0, 0);
+        Due.legals("it would flow over", y, 0, 1, 0, 1, 1, 0, 0, 0, 0);
         Due.yes("flows(0, 0, 3)", y.flows(0, 0, 3));
-        legals("it would fall dry", y, 0, 1, 0, 1, 1, 0, 0, 0, 0);
+        Due.legals("it would fall dry", y, 0, 1, 0, 1, 1, 0, 0, 0, 0);
         Due.yes("flows(23, 9, 0)", y.flows(23, 9, 0));
         Due.yes("flows(0, 9, 0)", y.flows(0, 9, 0));
         Due.is("the outlet is too small", y.legal(1, 1), 0);
@@ -160,7 +154,7 @@ public final class PromisesTest {
     }
 
     private static void machine() {
-        TwoLakes x = new TwoLakes();
+        Counted x = new Counted();
         Due.no("machine -1", x.machine(-1, 1, 1, 1, 1, 1));
         Due.no("machine 2", x.machine(2, 1, 1, 1, 1, 1));
         for (int wrong = -1; wrong <= 100; wrong += 101) {
@@ -175,11 +169,11 @@ public final class PromisesTest {
         Due.counts("refused", x, 1, 17, 23);
         Due.yes("all 0", x.machine(0, 0, 0, 0, 0, 0));
         Due.yes("all 99", x.machine(1, 99, 99, 99, 99, 99));
-        legals("99 are too many", x, 1, 0, 0, 1, 0, 0, 0, 0, 0);
+        Due.legals("99 are too many", x, 1, 0, 0, 1, 0, 0, 0, 0, 0);
     }
 
     private static void machineCounts() {
-        TwoLakes x = new TwoLakes();
+        Counted x = new Counted();
         Due.yes("machine 0", x.machine(0, 4, 7, 1, 3, 11));
         Due.yes("machine 1", x.machine(1, 6, 20, 5, 30, 13));
         Due.is("done(1, 2, 0)", x.done(1, 2, 0), 10 * (7 - 30) - 24);
@@ -192,75 +186,75 @@ public final class PromisesTest {
     }
 
     private static void out() {
-        TwoLakes x = new TwoLakes();
+        Counted x = new Counted();
         Due.no("out(-1, 0, 0, true)", x.out(-1, 0, 0, true));
         Due.no("out(2, 0, 0, true)", x.out(2, 0, 0, true));
         Due.no("out(0, -1, 0, true)", x.out(0, -1, 0, true));
         Due.no("out(0, 0, 24, true)", x.out(0, 0, 24, true));
         Due.no("out(0, 24, 24, true)", x.out(0, 24, 24, true));
         Due.no("out(0, 1, 0, true)", x.out(0, 1, 0, true));
-        legals("refused", x, 1, 1, 1, 1, 1, 1, 1, 1, 1);
+        Due.legals("refused", x, 1, 1, 1, 1, 1, 1, 1, 1, 1);
         Due.yes("out(0, 0, 1, true)", x.out(0, 0, 1, true));
-        legals("0 is out", x, 1, 1, 1, 0, 0, 0, 0, 0, 0);
+        Due.legals("0 is out", x, 1, 1, 1, 0, 0, 0, 0, 0, 0);
         Due.yes("out(1, 0, 23, true)", x.out(1, 0, 23, true));
-        legals("both are out", x, 1, 0, 0, 0, 0, 0, 0, 0, 0);
+        Due.legals("both are out", x, 1, 0, 0, 0, 0, 0, 0, 0, 0);
         Due.yes("out(1, 0, 0, false)", x.out(1, 0, 0, false));
-        legals("1 is back", x, 1, 1, 1, 0, 0, 0, 0, 0, 0);
+        Due.legals("1 is back", x, 1, 1, 1, 0, 0, 0, 0, 0, 0);
         Due.is("done(0, 1, 0)", x.done(0, 1, 0), 95);
-        legals("it has to stop", x, 1, 0, 0, 0, 0, 0, 0, 0, 0);
+        Due.legals("it has to stop", x, 1, 0, 0, 0, 0, 0, 0, 0, 0);
         Due.is("done(0, 0, 0)", x.done(0, 0, 0), 0);
-        legals("0 is back behind HOUR 1", x, 1, 0, 0, 1, 0, 0, 1, 0, 0);
+        Due.legals("0 is back behind HOUR 1", x, 1, 0, 0, 1, 0, 0, 1, 0, 0);
         Due.yes("to the last HOUR", x.out(0, 23, 23, true));
     }
 
     private static void reserve() {
-        TwoLakes x = new TwoLakes();
+        Counted x = new Counted();
         Due.no("reserve(-1, 1)", x.reserve(-1, 1));
         Due.no("reserve(24, 1)", x.reserve(24, 1));
         Due.no("reserve(0, -1)", x.reserve(0, -1));
         Due.no("reserve(0, 100)", x.reserve(0, 100));
-        legals("refused", x, 1, 1, 1, 1, 1, 1, 1, 1, 1);
+        Due.legals("refused", x, 1, 1, 1, 1, 1, 1, 1, 1, 1);
         Due.yes("machine 0", x.machine(0, 3, 10, 2, 40, 5));
         Due.yes("machine 1", x.machine(1, 3, 20, 2, 50, 5));
         Due.yes("reserve(0, 1)", x.reserve(0, 1));
-        legals("1", x, 1, 1, 1, 1, 0, 1, 1, 1, 1);
+        Due.legals("1", x, 1, 1, 1, 1, 0, 1, 1, 1, 1);
         Due.yes("reserve(0, 20)", x.reserve(0, 20));
-        legals("20", x, 1, 0, 1, 1, 0, 1, 1, 1, 1);
+        Due.legals("20", x, 1, 0, 1, 1, 0, 1, 1, 1, 1);
         Due.yes("reserve(0, 30)", x.reserve(0, 30));
-        legals("30", x, 1, 0, 1, 0, 0, 1, 1, 1, 1);
+        Due.legals("30", x, 1, 0, 1, 0, 0, 1, 1, 1, 1);
         Due.yes("reserve(0, 60)", x.reserve(0, 60));
-        legals("60", x, 0, 0, 1, 0, 0, 0, 1, 0, 1);
+        Due.legals("60", x, 0, 0, 1, 0, 0, 0, 1, 0, 1);
         Due.yes("reserve(0, 61)", x.reserve(0, 61));
-        legals("61", x, 0, 0, 0, 0, 0, 0, 0, 0, 1);
+        Due.legals("61", x, 0, 0, 0, 0, 0, 0, 0, 0, 1);
         Due.yes("reserve(0, 91)", x.reserve(0, 91));
-        legals("91", x, 0, 0, 0, 0, 0, 0, 0, 0, 0);
+        Due.legals("91", x, 0, 0, 0, 0, 0, 0, 0, 0, 0);
         Due.is("none is LEGAL", x.worth(), NEVER);
         Due.yes("reserve(0, 20)", x.reserve(0, 20));
         Due.yes("out(1, 0, 0, true)", x.out(1, 0, 0, true));
-        legals("20, 1 is out", x, 0, 0, 0, 0, 0, 0, 1, 0, 0);
+        Due.legals("20, 1 is out", x, 0, 0, 0, 0, 0, 0, 1, 0, 0);
         Due.yes("reserve(23, 0)", x.reserve(23, 0));
         Due.yes("reserve(0, 99)", x.reserve(0, 99));
     }
 
     private static void reserveOfUnits() {
-        TwoLakes x = new TwoLakes();
+        Counted x = new Counted();
         Due.yes("lakes(40, 40, 5, 20)", x.lakes(40, 40, 5, 20));
         Due.yes("machine 1", x.machine(1, 4, 10, 2, 10, 5));
         Due.yes("flows(0, 9, 0)", x.flows(0, 9, 0));
         Due.yes("reserve(0, 1)", x.reserve(0, 1));
-        legals("7 units are not there ahead of the inflow", x, 0, 0, 1, 0, 0, 1, 1, 1, 1);
+        Due.legals("7 units are not there ahead of the inflow", x, 0, 0, 1, 0, 0, 1, 1, 1, 1);
         Due.yes("out(0, 0, 0, true)", x.out(0, 0, 0, true));
-        legals("OUT needs none", x, 1, 0, 1, 0, 0, 0, 0, 0, 0);
+        Due.legals("OUT needs none", x, 1, 0, 1, 0, 0, 0, 0, 0, 0);
         Due.yes("out(0, 0, 0, false)", x.out(0, 0, 0, false));
         Due.yes("reserve(0, 0)", x.reserve(0, 0));
-        legals("nothing is promised", x, 1, 1, 1, 1, 1, 1, 1, 1, 1);
+        Due.legals("nothing is promised", x, 1, 1, 1, 1, 1, 1, 1, 1, 1);
         Due.yes("reserve(0, 1)", x.reserve(0, 1));
         Due.yes("lakes(40, 40, 7, 20)", x.lakes(40, 40, 7, 20));
-        legals("7 units are there", x, 1, 1, 1, 1, 0, 1, 1, 1, 1);
+        Due.legals("7 units are there", x, 1, 1, 1, 1, 0, 1, 1, 1, 1);
     }
 
     private static void weights() {
-        TwoLakes x = new TwoLakes();
+        Counted x = new Counted();
         Due.no("weights(-1, 1, 1)", x.weights(-1, 1, 1));
         Due.no("weights(10, 1, 1)", x.weights(10, 1, 1));
         Due.no("weights(1, -1, 1)", x.weights(1, -1, 1));
@@ -285,7 +279,7 @@ public final class PromisesTest {
     }
 
     private static void price() {
-        TwoLakes x = new TwoLakes();
+        Counted x = new Counted();
         Due.no("price(-1, 0, 1)", x.price(-1, 0, 1));
         Due.no("price(3, 0, 1)", x.price(3, 0, 1));
         Due.no("price(0, -1, 1)", x.price(0, -1, 1));
@@ -303,7 +297,7 @@ public final class PromisesTest {
     }
 
     private static void reveal() {
-        TwoLakes x = new TwoLakes();
+        Counted x = new Counted();
         Due.no("reveal(-1)", x.reveal(-1));
         Due.no("reveal(25)", x.reveal(25));
         Due.is("count(8)", x.count(8), 0);
@@ -344,7 +338,7 @@ public final class PromisesTest {
     }
 
     private static void end() {
-        TwoLakes x = new TwoLakes();
+        Counted x = new Counted();
         Due.no("end(-1)", x.end(-1));
         Due.no("end(1000)", x.end(1000));
         Due.is("refused: worth()", x.worth(), 595);
@@ -356,25 +350,25 @@ public final class PromisesTest {
     }
 
     private static void legal() {
-        TwoLakes x = new TwoLakes();
+        Counted x = new Counted();
         Due.is("legal(-1, 0)", x.legal(-1, 0), NONE);
         Due.is("legal(3, 0)", x.legal(3, 0), NONE);
         Due.is("legal(0, -1)", x.legal(0, -1), NONE);
         Due.is("legal(0, 3)", x.legal(0, 3), NONE);
         x.done(1, 2, 0);
-        legals("behind DOWN, UP", x, 1, 0, 1, 1, 0, 1, 0, 0, 0);
+        Due.legals("behind DOWN, UP", x, 1, 0, 1, 1, 0, 1, 0, 0, 0);
         x.done(0, 2, 0);
-        legals("behind STILL, UP", x, 1, 0, 1, 1, 0, 1, 1, 0, 1);
+        Due.legals("behind STILL, UP", x, 1, 0, 1, 1, 0, 1, 1, 0, 1);
         x.done(2, 0, 0);
-        legals("behind UP, STILL", x, 1, 1, 1, 0, 0, 0, 1, 1, 1);
+        Due.legals("behind UP, STILL", x, 1, 1, 1, 0, 0, 0, 1, 1, 1);
         Due.is("runs(20, 0)", x.runs(20, 0), 20);
         Due.is("NOW is 23: legal(0, 0)", x.legal(0, 0), 1);
         Due.is("runs(24, 0)", x.runs(24, 0), 1);
-        legals("NOW is 24", x, NONE, NONE, NONE, NONE, NONE, NONE, NONE, NONE, NONE);
+        Due.legals("NOW is 24", x, NONE, NONE, NONE, NONE, NONE, NONE, NONE, NONE, NONE);
     }
 
     private static void worth() {
-        TwoLakes x = new TwoLakes();
+        Counted x = new Counted();
         Due.yes("weights(2, 0, 3)", x.weights(2, 0, 3));
         Due.yes("end(4)", x.end(4));
         // the price of two units at the end, 8, is below 3 units for 100: all that can be is let down
@@ -395,7 +389,7 @@ public final class PromisesTest {
     }
 
     private static void mode() {
-        TwoLakes x = new TwoLakes();
+        Counted x = new Counted();
         Due.is("mode(-1, 0)", x.mode(-1, 0), NONE);
         Due.is("mode(3, 0)", x.mode(3, 0), NONE);
         Due.is("mode(0, -1)", x.mode(0, -1), NONE);
@@ -421,7 +415,7 @@ public final class PromisesTest {
     }
 
     private static void modeOfTies() {
-        TwoLakes x = new TwoLakes();
+        Counted x = new Counted();
         prices(x, 0, 0);
         Due.yes("machine 0", x.machine(0, 3, 10, 2, 10, 0));
         Due.yes("machine 1", x.machine(1, 3, 10, 2, 10, 0));
@@ -443,7 +437,7 @@ public final class PromisesTest {
     }
 
     private static void water() {
-        TwoLakes x = new TwoLakes();
+        Counted x = new Counted();
         Due.is("water(-1)", x.water(-1), NEVER);
         Due.is("water(40)", x.water(40), NEVER);
         Due.is("water(20), the lower lake would be too full", x.water(20), 0);
@@ -469,13 +463,13 @@ public final class PromisesTest {
         Due.is("water(4) at 24", x.water(4), 63);
         Due.is("water(5) at 24", x.water(5), NEVER);
         // the MODES as they are: a machine that runs needs no start
-        TwoLakes y = new TwoLakes();
+        Counted y = new Counted();
         Due.is("done(1, 0, 0)", y.done(1, 0, 0), 95);
         Due.is("water(2), running", y.water(2), 100);
     }
 
     private static void done() {
-        TwoLakes x = new TwoLakes();
+        Counted x = new Counted();
         Due.refused(x, -1, 0, 0);
         Due.refused(x, 3, 0, 0);
         Due.refused(x, 0, -1, 0);
@@ -499,7 +493,7 @@ public final class PromisesTest {
     }
 
     private static void runs() {
-        TwoLakes x = new TwoLakes();
+        Counted x = new Counted();
         Due.is("runs(-1, 0)", x.runs(-1, 0), NONE);
         Due.is("runs(25, 0)", x.runs(25, 0), NONE);
         Due.is("runs(1, -1)", x.runs(1, -1), NONE);
@@ -517,7 +511,7 @@ public final class PromisesTest {
         Due.is("runs(0, 2)", x.runs(0, 2), 0);
         Due.is("runs(1, 3) at 24", x.runs(1, 3), NONE);
         // the doings of common plan ahead of REVEAL, of the world's own from then on
-        TwoLakes y = new TwoLakes();
+        Counted y = new Counted();
         prices(y, 0, 0);
         prices(y, 1, 0);
         prices(y, 2, 0);
@@ -533,7 +527,7 @@ public final class PromisesTest {
     }
 
     private static void count() {
-        TwoLakes x = new TwoLakes();
+        Counted x = new Counted();
         Due.is("count(-1)", x.count(-1), NONE);
         Due.is("count(9)", x.count(9), NONE);
         Due.is("count of the least", x.count(Integer.MIN_VALUE), NONE);
@@ -547,7 +541,7 @@ public final class PromisesTest {
 
     /** Every setter tells in the next answer, also behind answers that were given before. */
     private static void nothingStale() {
-        TwoLakes x = new TwoLakes();
+        Counted x = new Counted();
         Due.is("worth()", x.worth(), 595);
         x.lakes(40, 40, 21, 19);
         Due.is("lakes", x.worth(), 695);

@@ -11,7 +11,7 @@ public final class WildArgumentsTest {
         20, 22, 23, 24, 25, 39, 40, 41, 99, 100, 999, 1000, 1 << 30, Integer.MAX_VALUE - 1, Integer.MAX_VALUE};
     private final Random dice;
     private final String run;
-    private final TwoLakes x = new TwoLakes();
+    private final Counted x = new Counted();
 
     private WildArgumentsTest(long seed) {
         dice = new Random(seed);
@@ -19,13 +19,18 @@ public final class WildArgumentsTest {
     }
 
     public static void main(String[] args) {
-        for (long seed = 1; seed <= 300; seed++) {
-            WildArgumentsTest test = new WildArgumentsTest(seed);
-            for (int call = 0; call < 100; call++) {
-                test.callOne();
-            }
+        for (long seed = 1; seed <= 1200; seed++) {
+            new WildArgumentsTest(seed).run();
         }
         Due.end();
+    }
+
+    private void run() {
+        x.runs(dice.nextInt(3) == 0 ? dice.nextInt(25) : 0, 0);
+        // One wild call and what is asked round it are 25 calls at most.
+        while (x.callsLeft() >= 25) {
+            callOne();
+        }
     }
 
     private int wild() {
